@@ -1758,6 +1758,8 @@ public final class ManyOut {
         private final int[] found = new int[MOST_SENDERS];
         private final int[] letters = new int[MOST_SENDERS];
         private final int[] tried = new int[MOST_SENDERS];
+        private final long[] pull = new long[MOST_SENDERS];
+        private long squares = 0;
         private boolean isPut = false;
         private long spanLeast = -1;
         private long spanMost = -1;
@@ -1775,13 +1777,13 @@ public final class ManyOut {
 
         long putAhead(House house, int[] row) {
             walk.start(house);
-            long squares = leastFor(house, row, -1);
-            if (squares > 1000L * house.limit) {
+            long least = leastFor(house, row, -1);
+            if (least > 1000L * house.limit) {
                 return refuse();
             }
             System.arraycopy(found, 0, put, 0, MOST_SENDERS);
             isPut = true;
-            return squares;
+            return least;
         }
 
         /** The least squares of a row; the search ends early with some that are not above enough. */
@@ -1795,9 +1797,9 @@ public final class ManyOut {
             int lines = walk.lineCount();
             for (int line = 0; line < lines && least > enough; line++) {
                 int d = walk.bestDigit(3);
-                long squares = walk.squaresAt(d);
-                if (squares < least) {
-                    least = squares;
+                long here = walk.squaresAt(d);
+                if (here < least) {
+                    least = here;
                     keepFound(d);
                 }
                 walk.nextLine();
@@ -1824,14 +1826,29 @@ public final class ManyOut {
             walk.start(house);
             walk.setAllNumbers(1 - many, 2, many);
             walk.firstLine();
-            long least = FAR;
+            long floor = leastThinkable(house);
+            // Even numbers can all be 0, and then 0 is sent.
+            long least = house.letters % 2 == 1 ? 0 : FAR;
             int lines = (walk.lineCount() + 1) / 2;
-            for (int line = 0; line < lines && least > 0; line++) {
+            for (int line = 0; line < lines && least > floor; line++) {
                 least = Math.min(least, walk.squaresAt(walk.bestDigit(many)));
                 walk.nextLine();
             }
             spanLeast = least;
             return least;
+        }
+
+        /** Where odd numbers go times numbers that are odd together, something odd is heard: 1 at least. */
+        private static long leastThinkable(House house) {
+            int odd = 0;
+            for (int r = 0; r < house.receivers && house.letters % 2 == 0; r++) {
+                int together = 0;
+                for (int s = 0; s < house.senders; s++) {
+                    together += house.table.at(r, s);
+                }
+                odd += together & 1;
+            }
+            return odd;
         }
 
         /** Half of the rows will do here too; a row that soon falls to the most so far needs no search. */
@@ -1840,30 +1857,68 @@ public final class ManyOut {
                 return spanMost;
             }
             walk.start(house);
-            Arrays.fill(tried, 0);
+            startTrying(house);
             long most = -1;
             int rows = (house.rowCount() + 1) / 2;
             for (int row = 0; row < rows; row++) {
-                for (int s = 0; s < house.senders; s++) {
-                    letters[s] = house.letterInRow(row, s);
-                }
                 if (!fallsTo(most, house)) {
                     most = Math.max(most, leastFor(house, letters, most));
+                    tryFound(house);
                 }
+                nextLetters(house);
             }
             spanMost = most;
             return most;
         }
 
+        private void startTrying(House house) {
+            Arrays.fill(tried, 0);
+            Arrays.fill(pull, 0L);
+            squares = 0;
+            for (int s = 0; s < house.senders; s++) {
+                letters[s] = 1 - house.letters;
+                move(s, letters[s]);
+            }
+        }
+
+        /** What was found for a row is a good start for the next one. */
+        private void tryFound(House house) {
+            for (int s = 0; s < house.senders; s++) {
+                if (tried[s] != found[s]) {
+                    move(s, 2L * house.letters * (found[s] - tried[s]));
+                    tried[s] = found[s];
+                }
+            }
+        }
+
+        private void nextLetters(House house) {
+            int s = walk.last;
+            while (s > 0 && letters[s] == house.letters - 1) {
+                letters[s] = 1 - house.letters;
+                move(s, 2 * letters[s]);
+                s--;
+            }
+            letters[s] += 2;
+            move(s, 2);
+        }
+
+        /** A sender's number grows: the squares of what is sent follow, and its products with the columns. */
+        private void move(int sender, long by) {
+            int row = sender * MOST_SENDERS;
+            squares += by * (2 * pull[sender] + by * walk.products[row + sender]);
+            for (int j = 0; j <= walk.last; j++) {
+                pull[j] += by * walk.products[row + j];
+            }
+        }
+
         /** Whether numbers tried for the row ahead, bettered one by one, bring this row to a bound. */
         private boolean fallsTo(long bound, House house) {
             int period = 2 * house.letters;
-            long squares = squaresTried(period);
             // No numbers come twice, since the squares fall: so there are at most 3 to the 5 rounds.
             for (int round = 0; round < 243 && squares > bound; round++) {
                 long before = squares;
                 for (int s = 0; s <= walk.last && squares > bound; s++) {
-                    squares += better(s, period);
+                    better(s, period);
                 }
                 if (squares == before) {
                     return false;
@@ -1872,36 +1927,17 @@ public final class ManyOut {
             return squares <= bound;
         }
 
-        private long productTried(int sender, int period) {
-            long sum = 0;
-            for (int j = 0; j <= walk.last; j++) {
-                sum += walk.products[sender * MOST_SENDERS + j] * (letters[j] + period * tried[j]);
-            }
-            return sum;
-        }
-
-        private long squaresTried(int period) {
-            long sum = 0;
-            for (int s = 0; s <= walk.last; s++) {
-                sum += productTried(s, period) * (letters[s] + period * tried[s]);
-            }
-            return sum;
-        }
-
-        /** Adds 1 to a sender's number, or takes 1, if the squares fall: by how much, below 0. */
-        private long better(int sender, int period) {
-            long product = productTried(sender, period);
-            int step = product > 0 ? -1 : 1;
+        /** Adds 1 to a sender's number, or takes 1 from it, if the squares fall by that. */
+        private void better(int sender, int period) {
+            int step = pull[sender] > 0 ? -1 : 1;
             if (tried[sender] + step < -1 || tried[sender] + step > 1) {
-                return 0;
+                return;
             }
-            long shift = (long) step * period;
-            long change = shift * (2 * product + shift * walk.products[sender * MOST_SENDERS + sender]);
-            if (change >= 0) {
-                return 0;
+            long by = (long) step * period;
+            if (by * (2 * pull[sender] + by * walk.products[sender * MOST_SENDERS + sender]) < 0) {
+                tried[sender] += step;
+                move(sender, by);
             }
-            tried[sender] += step;
-            return change;
         }
     }
 }
