@@ -25,6 +25,7 @@ public final class ManyOut {
     private static final int MOST_SLIP = 9999;
     private static final int LEAST_HEARD = -32768;
     private static final int MOST_HEARD = 32767;
+    private static final int CHECK_START = 51;
     private static final int BOUND = 1000000;
     private static final long WEIGHT = 1000000000L;
     // Above all squares that there are.
@@ -471,9 +472,9 @@ public final class ManyOut {
         }
         imageBytes[length] = led.done;
         length++;
-        int check = 51;
+        int check = CHECK_START;
         for (int k = 0; k < length; k++) {
-            check = (7 * check + imageBytes[k]) % 253;
+            check = checkWith(check, imageBytes[k]);
         }
         imageBytes[length] = check;
         imageLength = length + 1;
@@ -506,11 +507,15 @@ public final class ManyOut {
         if (tape.length() != last + 1) {
             return false;
         }
-        int check = 51;
+        int check = CHECK_START;
         for (int k = 0; k < last; k++) {
-            check = (7 * check + tape.at(k)) % 253;
+            check = checkWith(check, tape.at(k));
         }
         return tape.at(last) == check;
+    }
+
+    private static int checkWith(int check, int next) {
+        return (7 * check + next) % 253;
     }
 
     /** The bytes that were fed and are not used yet. */
