@@ -50,6 +50,12 @@ public final class FaultTest {
         at(1, "house 2 2 2; |house 2 2 2;");
         at(1, "house 2 2 2; |ro 1 2;");
         at(1, "house 2 2 2; |rows 1 2;");
+        at(1, "house 2 2 2; |rowz 1 2;");
+        at(1, "house 2 2 2; |rowa 1 2;");
+        at(1, "house 2 2 2; row|{1 2;");
+        at(1, "house 2 2 2; row|`1 2;");
+        at(1, "house 2 2 2; row |/ 2;");
+        at(1, "house 2 2 2; row |: 2;");
         at(1, "house 2 2 2; |5;");
         at(1, "house\t 2 2 2;".replace("\t", "|\t"));
         at(1, "house|\r2 2 2;");

@@ -253,6 +253,7 @@ public final class PromiseTest {
         due("13: most below 0", x.slips(-1, 1), NONE);
         due("13: most above", x.slips(10000, 1), NONE);
         due("13: none", x.slips(0, 77), 2);
+        due("13: the most", Check.with("house 2 1 6;").slips(9999, 0), 6);
         due("13: all stays", x.heard(0), 17242618 % 21 - 10);
         Check.hear(x, 32767, -32768);
         for (int n = 0; n < 60; n++) {
@@ -583,6 +584,9 @@ public final class PromiseTest {
         due("31: m 3", x.sums(7, 3, NONE), NOTHING);
         due("31: no such sender", x.sums(7, 1, 3), NOTHING);
         due("31: no such sender", x.sums(7, 1, -2), NOTHING);
+        due("31: as short", Check.with("house 2 2 1; row 2 4;").sums(3, 1, NONE), 4);
+        due("31: the first such row", Check.with("house 2 2 1; row 2 4;").sums(3, 1, 0), -1);
+        due("31: the first such row", Check.with("house 2 2 1; row 2 4;").sums(3, 1, 1), 0);
         x.lead(9);
         due("31: of the table, led or not", x.sums(7, 1, NONE), 10);
     }
@@ -745,6 +749,10 @@ public final class PromiseTest {
         due("41: put", x.put(1), 1);
         ahead(x, 1, 1);
         due("41: 1 and 1 can't be below 4", x.put(0), NOTHING);
+        Check.house(x, "house 2 2 1; row 3 1;");
+        due("41: -3 and 1, or -3 and 5", ahead(x, -1, 1), 4);
+        due("41: the first of both", x.put(0), 0);
+        due("41: the first of both", x.put(1), 0);
     }
 
     private static void worth(String rule, int... due) {
