@@ -863,7 +863,8 @@ public final class ManyOut {
         private final Tape tape = new Tape();
         private House into = new House();
         private int at = 0;
-        private int tokenEnd = NONE;
+        // The sign that comes next; 0, which no text has, where a blank is missing; NONE at the end.
+        private int sign = NONE;
         private int numberAt = 0;
         private int open = 0;
         private int fault = 0;
@@ -878,13 +879,12 @@ public final class ManyOut {
 
         boolean readHouse() {
             into.clear();
-            at = 0;
-            tokenEnd = NONE;
             open = 0;
             fault = 0;
             place = NONE;
+            goOn(0, false);
             for (int n = 0; n <= MOST_STATEMENTS; n++) {
-                if (signAhead() == NONE) {
+                if (sign == NONE) {
                     return n > 0 || failHere();
                 }
                 if (n == MOST_STATEMENTS) {
@@ -910,57 +910,60 @@ public final class ManyOut {
 
         // ---- signs, words and numbers
 
-        /** The sign that comes next; 0, which no text has, where a blank is missing; NONE at the end. */
-        private int signAhead() {
+        /** Goes to the first sign from there on that is no blank; behind a word or number one is needed. */
+        private void goOn(int from, boolean needsBlank) {
+            at = from;
             while (at < tape.length() && isBlank(tape.at(at))) {
                 at++;
             }
-            int sign = tape.at(at);
-            return at == tokenEnd && (isSmall(sign) || isDigit(sign)) ? 0 : sign;
+            sign = tape.at(at);
+            if (needsBlank && at == from && (isSmall(sign) || isDigit(sign))) {
+                sign = 0;
+            }
         }
 
-        private static boolean isBlank(int sign) {
-            return sign == 10 || sign == 32;
+        private static boolean isBlank(int one) {
+            return one == 10 || one == 32;
         }
 
-        private static boolean isSmall(int sign) {
-            return sign >= 'a' && sign <= 'z';
+        private static boolean isSmall(int one) {
+            return one >= 'a' && one <= 'z';
         }
 
-        private static boolean isDigit(int sign) {
-            return sign >= '0' && sign <= '9';
+        private static boolean isDigit(int one) {
+            return one >= '0' && one <= '9';
         }
 
-        private boolean takesSign(int sign) {
-            boolean there = signAhead() == sign;
+        private boolean takesSign(int wanted) {
+            boolean there = sign == wanted;
             if (there) {
-                at++;
+                goOn(at + 1, false);
             }
             return there;
         }
 
-        private boolean readSign(int sign) {
-            return takesSign(sign) || failHere();
+        private boolean readSign(int wanted) {
+            if (sign != wanted) {
+                return failHere();
+            }
+            goOn(at + 1, false);
+            return true;
         }
 
         private boolean isWordAhead(String word) {
-            if (signAhead() == 0) {
-                return false;
-            }
             int length = word.length();
             for (int k = 0; k < length; k++) {
                 if (tape.at(at + k) != word.charAt(k)) {
                     return false;
                 }
             }
-            return !isSmall(tape.at(at + length));
+            return sign != 0 && !isSmall(tape.at(at + length));
         }
 
         private boolean takesWord(String word) {
             boolean there = isWordAhead(word);
             if (there) {
-                at += word.length();
-                tokenEnd = at;
+                goOn(at + word.length(), true);
             }
             return there;
         }
@@ -971,7 +974,7 @@ public final class ManyOut {
 
         /** A number without a sign; NONE with a fault. */
         private int readNumber() {
-            if (!isDigit(signAhead())) {
+            if (!isDigit(sign)) {
                 failHere();
                 return NONE;
             }
@@ -985,13 +988,12 @@ public final class ManyOut {
                 failHere();
                 return NONE;
             }
-            tokenEnd = at;
+            goOn(at, true);
             return value;
         }
 
         /** A number that may have a sign; NOTHING with a fault. */
         private int readSigned() {
-            signAhead();
             int start = at;
             boolean minus = takesSign('-');
             int value = readNumber();
@@ -1135,26 +1137,30 @@ public final class ManyOut {
             if (isWordAhead("not")) {
                 return opens() && readWord("not") && readFact() && closes() && adds(OP_NOT);
             }
-            if (signAhead() == '[') {
+            if (sign == '[') {
                 return opens() && readSign('[') && readTest() && readSign(']') && closes();
             }
             if (takesWord("all")) {
                 return adds(1);
             }
-            return readComparison();
-        }
-
-        private boolean readComparison() {
             if (!readSum()) {
                 return false;
             }
-            if (takesSign('<')) {
-                return readSum() && adds(OP_BELOW);
+            int op = comparisonBy(sign);
+            if (op == 0) {
+                return failHere();
             }
-            if (takesSign('>')) {
-                return readSum() && adds(OP_ABOVE);
+            goOn(at + 1, false);
+            return readSum() && adds(op);
+        }
+
+        private static int comparisonBy(int one) {
+            switch (one) {
+                case '<': return OP_BELOW;
+                case '>': return OP_ABOVE;
+                case '=': return OP_EQUAL;
+                default: return 0;
             }
-            return readSign('=') && readSum() && adds(OP_EQUAL);
         }
 
         // ---- sums
@@ -1188,7 +1194,7 @@ public final class ManyOut {
         }
 
         private boolean readPart() {
-            if (signAhead() == '(') {
+            if (sign == '(') {
                 return opens() && readSign('(') && readSum() && readSign(')') && closes();
             }
             if (takesWord("sender")) {
@@ -1211,7 +1217,7 @@ public final class ManyOut {
         }
 
         private boolean readPair() {
-            if (signAhead() != '(') {
+            if (sign != '(') {
                 return failHere();
             }
             return opens() && readSign('(') && readSum() && readSign(',') && readSum()
