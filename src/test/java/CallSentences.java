@@ -490,6 +490,12 @@ final class CallSentences {
         for (int k = 0; k < 10; k++) {
             t.due("row " + k, x.near(k), 4L * k * k);
         }
+        Check.hear(x, 4);
+        // The distances of the rows fall to 1 and rise again: those that rise go among those that fell.
+        long[] far = {1, 1, 9, 9, 25, 25, 49, 49, 81, 81};
+        for (int k = 0; k < 10; k++) {
+            t.due("falling and rising, row " + k, x.near(k), far[k]);
+        }
         t.say("-1 when there is none such.");
         t.due("k 10", x.near(10), -1);
         for (int k : FAR_OUT) {
@@ -530,6 +536,16 @@ final class CallSentences {
         for (int s = 0; s < 3; s++) {
             t.due("sender " + s, x.cancel(s), letters[s]);
         }
+        Check.house(x, "house 8 5 6; row 1 0 0 0 9; row 0 2 0 0 9; row 0 0 3 0 9; row 0 0 0 4 9; row 0 0 0 0 9;"
+            + "row 0 0 0 0 9;");
+        // The last one first: by it 9 times 5 goes from each.
+        Check.hear(x, 45 + 7, 45 - 14, 45 + 9, 45 - 4, 45, 45);
+        int[] five = {7, -7, 3, -1, 5};
+        for (int s = 0; s < 5; s++) {
+            t.due("five senders and six receivers, " + s, x.cancel(s), five[s]);
+        }
+        t.due("nothing is left", x.left(), 0);
+        Check.house(x, "house 2 3 1; row 1 4 2;");
         t.say("NOTHING when there is none such.");
         t.due("sender 3", x.cancel(3), NOTHING);
         for (int s : FAR_OUT) {
@@ -635,6 +651,12 @@ final class CallSentences {
         // 0 and 0, or 0 and 2.
         t.due("as near with another", x.sure(1), 0);
         t.due("20 - 2 and 1", x.sure(0), 17 * 17 - 1);
+        ManyOut y = Check.with("house 8 5 5; row 1 0 0 0 0; row 0 2 0 0 0; row 0 0 3 0 0; row 0 0 0 4 0; row 0 0 0 0 5;");
+        // All have the least letter, and each is sure by its own column alone.
+        Tape.send(y, -7, -7, -7, -7, -7);
+        for (int s = 0; s < 5; s++) {
+            t.due("eight letters, five senders, " + s, y.sure(s), 4 * (s + 1) * (s + 1));
+        }
         t.say("-1 when there is none such.");
         t.due("sender 2", x.sure(2), -1);
         for (int s : FAR_OUT) {
@@ -657,6 +679,12 @@ final class CallSentences {
         t.due("2", x.lead(2), 2);
         t.due("fewer", x.lead(2), 1);
         t.due("none", x.lead(1), 0);
+        Check.house(x, "house 2 5 5; row 1 0 0 0 0; row 0 2 0 0 0; row 0 0 3 0 0; row 0 0 0 4 0; row 0 0 0 0 5;");
+        t.due("five that rest at once", x.lead(100), 0);
+        Check.house(x, "house 2 5 1; row 5 4 3 2 1;");
+        t.due("five", x.lead(100) > 0, true);
+        t.due("rest", x.lead(100), 0);
+        t.due("at a single 1", x.squares(true), 1);
         t.due("without senders", new ManyOut().lead(1), 0);
         t.say("NONE, doing nothing, for others.");
         x = used();

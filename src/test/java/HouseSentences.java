@@ -162,9 +162,20 @@ final class HouseSentences {
         ManyOut x = Check.with("house 2 1 1; worth 1 when not all; worth 2 when not all; worth 3 when not all;"
             + "worth 4 when not all; worth 5 when not all; worth 6 when not all; worth 7 when not all; worth 8 when all;");
         t.due("the eighth", x.worth(0), 8);
-        Check.house(x, "house 2 1 1;");
-        t.due("rules of an earlier house", x.has(5), 0);
-        t.due("rules of an earlier house", x.worth(0), 0);
+        for (int n = 0; n < 3; n++) {
+            Check.house(x, "house 2 1 1;");
+            t.due("rules of an earlier house", x.has(5), 0);
+            t.due("rules of an earlier house", x.worth(0), 0);
+        }
+        Check.house(x, "house 2 1 1;" + "worth 1 when not all;".repeat(8));
+        t.due("none of eight", x.worth(0), 0);
+        // The longest rules there are, house after house.
+        for (int n = 1; n <= 6; n++) {
+            x = n == 4 ? new ManyOut() : x;
+            String sum = "9" + ("+" + n).repeat(770);
+            t.due("a long rule", Check.house(x, "house 2 1 1; worth " + sum + " when 1 > 0;"), 2);
+            t.due("a long rule", x.worth(0), 9 + 770 * n);
+        }
     }
 
     private void limits() {
@@ -477,6 +488,10 @@ final class HouseSentences {
         t.good("house 2 1 1; worth 5 when [[[[[not all and (5) < 6]]]]];", 2);
         t.good("house 2 1 1; worth 5 when [[[[[not 1 < 2 or not 3 < 4 and (5) < (6)]]]]];", 2);
         t.good("house 2 1 1; worth ((((((5)))))) when ((((((5)))))) < ((((((6)))))) and [[[[[[all]]]]]];", 2);
+        // What was left open by a fault is not open in the next house.
+        ManyOut x = new ManyOut();
+        Check.house(x, "house 2 1 1; worth ((((((%");
+        t.due("six anew", Check.house(x, "house 2 1 1; worth ((((((5)))))) when all;"), 2);
         // The seventh is a fault at itself, whatever comes behind it.
         rule(3, "((((((|(");
         rule(3, "((((((|(%");

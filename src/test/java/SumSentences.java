@@ -182,6 +182,15 @@ final class SumSentences {
         t.due("far out", x.decode(), 0);
         Check.hear(x, -32768, -32768);
         t.due("far out", x.decode(), 1);
+        StringBuilder text = new StringBuilder("house 8 5 1; row 99 1 1 1 1;");
+        for (int w = 0; w < 16; w++) {
+            text.append("word ").append(w % 8 * 2 - 7).append(" 1 1 1 ").append(w < 8 ? 7 : 5).append(';');
+        }
+        Check.house(x, text.toString());
+        for (int w = 0; w < 16; w++) {
+            Check.hear(x, 99 * (w % 8 * 2 - 7) + (w < 8 ? 10 : 8));
+            t.due("five senders and sixteen words, " + w, x.decode(), w);
+        }
         t.say("NONE without.");
         Check.house(x, "house 2 1 1; row 5;");
         t.due("without words", x.decode(), NONE);
@@ -276,8 +285,8 @@ final class SumSentences {
     }
 
     /** Of all rows the least and the greatest of what ahead() tells, by asking it for each. */
-    private void spanOf(String house, int letters, int senders) {
-        ManyOut x = Check.with(house);
+    private void spanOf(ManyOut x, String house, int letters, int senders) {
+        Check.house(x, house);
         ManyOut y = Check.with(house);
         long least = Long.MAX_VALUE;
         long most = -1;
@@ -300,27 +309,30 @@ final class SumSentences {
         t.due("the greatest of " + house, x.span(true), most);
         t.due("the least of " + house + " once more", x.span(false), least);
         t.due("the greatest of " + house + " once more", x.span(true), most);
-        Check.house(x, "house 2 1 1; row 5;");
-        t.due("of another house", x.span(false), 25);
-        t.due("of another house", x.span(true), 25);
     }
 
     private void span() {
         t.promise(39, "span");
         t.say("Of all ROWS the least (most false), the greatest squares that ahead() would tell (not asking for limit);");
-        spanOf("house 2 1 1; row 7;", 2, 1);
-        spanOf("house 8 1 2; row 7; row 3;", 8, 1);
-        spanOf("house 2 2 1; row 7 4;", 2, 2);
-        spanOf("house 3 2 2; row 7 4; row 1 -9;", 3, 2);
-        spanOf("house 4 2 2; row 7 4; row 1 -9;", 4, 2);
-        spanOf("house 5 2 1; row 9 1;", 5, 2);
-        spanOf("house 4 3 2; row 7 4 -2; row 1 -9 5;", 4, 3);
-        spanOf("house 3 3 3; row 9 8 7; row -1 5 5; row 2 0 6;", 3, 3);
-        spanOf("house 6 3 1; row 9 8 7;", 6, 3);
-        spanOf("house 2 5 2; row 5 9 2 -7 1; row 1 -1 4 6 8;", 2, 5);
-        spanOf("house 3 4 3; row 3 9 2 -7; row 1 -1 4 6; row 0 0 5 1;", 3, 4);
-        spanOf("house 2 2 2;", 2, 2);
-        ManyOut x = Check.with("house 8 1 6;" + "row 99;".repeat(6) + "limit 0;");
+        ManyOut x = new ManyOut();
+        spanOf(x, "house 2 1 1; row 7;", 2, 1);
+        spanOf(x, "house 8 1 2; row 7; row 3;", 8, 1);
+        spanOf(x, "house 2 2 1; row 7 4;", 2, 2);
+        spanOf(x, "house 3 2 2; row 7 4; row 1 -9;", 3, 2);
+        spanOf(x, "house 4 2 2; row 7 4; row 1 -9;", 4, 2);
+        spanOf(x, "house 5 2 1; row 9 1;", 5, 2);
+        spanOf(x, "house 4 3 2; row 7 4 -2; row 1 -9 5;", 4, 3);
+        spanOf(x, "house 3 3 3; row 9 8 7; row -1 5 5; row 2 0 6;", 3, 3);
+        spanOf(x, "house 6 3 1; row 9 8 7;", 6, 3);
+        spanOf(x, "house 2 5 2; row 5 9 2 -7 1; row 1 -1 4 6 8;", 2, 5);
+        spanOf(x, "house 3 4 3; row 3 9 2 -7; row 1 -1 4 6; row 0 0 5 1;", 3, 4);
+        spanOf(x, "house 2 2 2;", 2, 2);
+        // 7 times 5 less 5 times 7 would be nothing, but numbers go up to 5 alone.
+        spanOf(x, "house 2 2 1; row 5 7;", 2, 2);
+        spanOf(x, "house 4 2 3; row 99 98; row 97 -99; row 5 60;", 4, 2);
+        spanOf(x, "house 4 4 6; row 1 2 3 4; row 4 3 2 1; row 1 -1 1 -1; row 2 2 -2 -2; row 0 1 0 5; row 7 0 0 0;", 4, 4);
+        spanOf(x, "house 2 5 6; row 9 8 7 6 5; row 1 1 1 1 1; row 2 -3 4 -5 6; row 3 3 3 -3 0; row 0 1 2 3 4; row 8 0 8 0 8;", 2, 5);
+        Check.house(x, "house 8 1 6;" + "row 99;".repeat(6) + "limit 0;");
         t.due("not asking for the limit", x.span(true), 2881494);
         t.due("not asking for the limit", x.span(false), 6 * 9801);
         t.say("-1 without SENDERS.");
