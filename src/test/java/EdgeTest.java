@@ -67,19 +67,7 @@ public final class EdgeTest {
         }
     }
 
-    private static void readme() {
-        ManyOut x = new ManyOut();
-        x.feed(0x686f7573, 0x65203220, 0x31203120, 0x3b726f77, 0x2033203b);
-        CHECK.due("README: house()", x.house(), 2);
-        x.feed(0x00040000, 0, 0, 0, 0);
-        x.end(2);
-        CHECK.due("README: hear()", x.hear(), true);
-        CHECK.due("README: nearest(0, 0)", x.nearest(0, 0), 1);
-        CHECK.due("README: near(0)", x.near(0), 1);
-    }
-
     public static void main(String[] args) throws ReflectiveOperationException {
-        readme();
         compare(new ManyOut(), new Plain());
         for (String text : HOUSES) {
             ManyOut x = new ManyOut();
